@@ -174,43 +174,28 @@ public final class SmallChecker {
     }
 
     public int terms(int tree) throws ArrayIndexOutOfBoundsException {
-        Tree asked = treeAt(tree);
-        if (asked == null) {
-            throw new ArrayIndexOutOfBoundsException("no such tree");
-        }
-        return asked.polynomial.isTooGreat() ? -1 : asked.polynomial.size;
+        Polynomial asked = existingTree(tree).polynomial;
+        return asked.isTooGreat() ? -1 : asked.size;
     }
 
     public int term(int tree, int i, int j, int k)
             throws ArrayIndexOutOfBoundsException, IllegalStateException {
-        Tree asked = treeAt(tree);
-        if (asked == null) {
-            throw new ArrayIndexOutOfBoundsException("no such tree");
-        }
-        if (asked.polynomial.isTooGreat()) {
+        Polynomial asked = existingTree(tree).polynomial;
+        if (asked.isTooGreat()) {
             throw new IllegalStateException("the tree is too great");
         }
         if (!isPower(i) || !isPower(j) || !isPower(k)) {
             return 0;
         }
-        return asked.polynomial.numberAt(i * 100 + j * 10 + k);
+        return asked.numberAt(i * 100 + j * 10 + k);
     }
 
     public int deep(int tree) throws ArrayIndexOutOfBoundsException {
-        Tree asked = treeAt(tree);
-        if (asked == null) {
-            throw new ArrayIndexOutOfBoundsException("no such tree");
-        }
-        return asked.depth;
+        return existingTree(tree).depth;
     }
 
     public boolean alike(int a, int b) throws ArrayIndexOutOfBoundsException {
-        Tree first = treeAt(a);
-        Tree second = treeAt(b);
-        if (first == null || second == null) {
-            throw new ArrayIndexOutOfBoundsException("no such tree");
-        }
-        return first.model == second.model;
+        return existingTree(a).model == existingTree(b).model;
     }
 
     public int count(int what) {
@@ -250,6 +235,14 @@ public final class SmallChecker {
     /** The tree of this number, or null: there is none such. */
     private Tree treeAt(int tree) {
         return tree >= 0 && tree < treeCount ? trees[tree] : null;
+    }
+
+    private Tree existingTree(int tree) {
+        Tree found = treeAt(tree);
+        if (found == null) {
+            throw new ArrayIndexOutOfBoundsException("no such tree");
+        }
+        return found;
     }
 
     /** The polynomial of a field's tree; 0 for a field without a tree, which no kind looks at. */

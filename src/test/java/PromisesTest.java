@@ -35,7 +35,9 @@ public final class PromisesTest {
         try {
             return call.call();
         } catch (Exception e) {
-            return e.getClass();
+            // The machine writes such texts; the class must throw by itself.
+            boolean byMachine = String.valueOf(e.getMessage()).contains("out of bounds for");
+            return byMachine ? "thrown by the machine" : e.getClass();
         }
     }
 
@@ -324,7 +326,7 @@ public final class PromisesTest {
 
     private static void promise4ThirdPower() {
         SmallChecker x = withLetters();
-        // Each power has at most 35 terms here: (x + y + z + 1)^3 has 20, its square 84.
+        // (x + y + z + 1)^3 has 20 terms, its square has 84.
         x.node(0, 0, 1);
         x.node(0, 5, 2);
         x.node(0, 6, 3);
