@@ -124,34 +124,47 @@ public final class ObjectBoundsTest {
         run.state("load", 0, 0, 0, -1);
     }
 
-    /** What is made behind clear has nothing of what stood there ahead of it. */
+    /** Of three objects: the later trees of one were too great, of one of degree 9, of one of 40 terms. */
     private static void clearLeavesNothing() {
-        Run run = Run.withLetters("clear(): No trees, no rows (nothing of them comes back)");
-        int forty = run.forty();
-        run.make("node", 4, forty, -1);
-        while (run.trees() < 60) {
-            run.make("node", 0, forty, run.great());
+        for (int cause = 0; cause < 3; cause++) {
+            Run run = Run.withLetters("clear(): No trees, no rows (nothing of them comes back)");
+            int tree = cause == 0 ? run.great() : cause == 1 ? run.monomial(1, 4, 4, 1) : run.forty();
+            for (int i = run.trees(); i < 110; i++) {
+                run.make("node", 4, tree, -1);
+            }
+            for (int row = 0; row < 5; row++) {
+                run.make("load", 6, tree, 0, -1);
+                run.done("cofactor", row, tree);
+                run.done("sample", row, row % 3, 10);
+            }
+            run.done("clear");
+            Run plain = new Run("");
+            makeFew(run);
+            makeFew(plain);
+            run.dueLike(plain);
+            dueFew(run);
         }
-        for (int row = 0; row < 5; row++) {
-            run.make("load", 6, forty, 0, -1);
-            run.done("cofactor", row, forty);
-            run.done("sample", row, row % 3, 10);
-        }
-        run.done("clear");
-        Run plain = new Run("");
-        for (Run each : new Run[] {run, plain}) {
-            each.make("number", 0);
-            each.make("leaf", 2);
-            each.make("node", 0, 0, 1);
-            each.make("number", 5);
-            each.make("node", 5, 3, -1);
-            each.make("node", 1, 1, 1);
-            each.make("load", 6, 0, 1, -1);
-            each.make("load", 0, 2, 1, -1);
-        }
-        run.dueLike(plain);
-        run.due(0, "terms", 0);
-        run.due(125, "term", 4, 0, 0, 0);
+    }
+
+    /** Behind 60 numbers, where others stood: a ninth power, no term, and two rows. */
+    private static void makeFew(Run run) {
+        run.fillTrees(60);
+        int z = run.make("leaf", 2);
+        int third = run.make("node", 2, run.make("node", 2, z, z), z);
+        int ninth = run.make("node", 5, third, -1);
+        run.make("node", 2, ninth, run.make("number", 2));
+        run.make("node", 1, z, z);
+        run.make("load", 6, z, ninth, -1);
+        run.make("load", 0, third, third, -1);
+    }
+
+    private static void dueFew(Run run) {
+        run.due(67, "count", 0);
+        run.due(59, "term", 59, 0, 0, 0);
+        run.due(1, "term", 63, 0, 0, 9);
+        run.due(2, "term", 65, 0, 0, 9);
+        run.due(0, "terms", 66);
+        run.due(2, "count", 1);
         run.due(-1, "rowAt", 0, 4);
         run.due(0, "rowAt", 0, 5);
         run.due(0, "rowAt", 1, 6);

@@ -408,6 +408,48 @@ public final class RowBoundsTest {
         dueHolds(false, run, 2, forty, run.make("node", 0, twenty, 0), two);
         int part = run.make("node", 1, forty, run.monomial(1, 1, 3, 4));
         dueHolds(false, run, 2, part, twenty, two);
+        int one = run.make("number", 1);
+        dueHolds(true, run, 2, forty, forty, one);
+        dueHolds(true, run, 2, forty, one, forty);
+        dueHolds(false, run, 2, forty, part, one);
+    }
+
+    private static void kind2AllTerms() {
+        Run run = Run.withLetters("KIND 2: the product (of all 220 TERMS of a degree up to 9)");
+        int four = run.allUpToFour();
+        int five = run.elevenUpToFive();
+        dueHolds(false, run, 2, four, four, five);
+        dueHolds(false, run, 2, five, five, four);
+        dueHolds(true, run, 2, run.make("node", 3, 0, -1), 0, 0);
+        dueHolds(true, run, 0, four, four, -1);
+    }
+
+    /** Each kind with a tree that has as many terms as one can have. */
+    private static void fortyTermsOfEachKind() {
+        Run run = Run.withLetters("A row HOLDS if no tree .. is TOO GREAT (40 TERMS are not)");
+        int forty = run.forty();
+        int nextToForty = run.make("node", 0, run.make("node", 1, forty, 2), run.make("number", -1));
+        int lessOne = run.make("node", 1, forty, run.make("number", 1));
+        run.due(38, "terms", nextToForty);
+        run.due(39, "terms", lessOne);
+        dueHolds(true, run, 0, forty, forty, -1);
+        dueHolds(false, run, 0, forty, lessOne, -1);
+        // By z all but the 20 terms with z go out.
+        int ofTwo = run.make("node", 2, run.powersUpTo(0, 4), run.powersUpTo(1, 3));
+        dueHolds(true, run, 1, forty, ofTwo, 2);
+        dueHolds(false, run, 1, forty, lessOne, 2);
+        dueHolds(true, run, 3, forty, -1, 1);
+        dueHolds(false, run, 3, forty, 1, 1);
+        int same = run.make("load", 4, forty, nextToForty, -1);
+        dueRowHolds(false, run, same);
+        setSample(run, same, 0, 0, -2);
+        dueRowHolds(false, run, same);
+        setSample(run, same, 0, 0, -1);
+        dueRowHolds(true, run, same);
+        dueHolds(true, run, 5, forty, -1, -1);
+        int divided = run.make("load", 6, forty, ofTwo, -1);
+        run.done("cofactor", divided, run.powersUpTo(2, 1));
+        dueRowHolds(true, run, divided);
     }
 
     private static void kind3() {
@@ -764,6 +806,8 @@ public final class RowBoundsTest {
         kind2();
         kind2Degree();
         kind2Terms();
+        kind2AllTerms();
+        fortyTermsOfEachKind();
         kind3();
         kind3OfAPart();
         kind3AtTheBound();

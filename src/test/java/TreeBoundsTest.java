@@ -357,6 +357,21 @@ public final class TreeBoundsTest {
         run.due(0, "term", product, 0, 1, 0);
     }
 
+    private static void allTermsThereCanBe() {
+        Run run = Run.withLetters("more than 40 TERMS (all 220 of a degree up to 9)");
+        int four = run.allUpToFour();
+        int five = run.elevenUpToFive();
+        run.due(35, "terms", four);
+        run.due(24, "term", run.make("node", 2, four, run.make("number", 2)), 2, 1, 1);
+        run.due(11, "terms", five);
+        run.due(-1, "terms", run.make("node", 2, four, five));
+        run.due(-1, "terms", run.make("node", 2, five, four));
+        // What is worked out next has nothing of it.
+        int sum = run.make("node", 0, 0, 1);
+        run.due(2, "terms", sum);
+        run.due(3, "terms", run.make("node", 3, sum, -1));
+    }
+
     private static void degreeOfAllPowersTogether() {
         Run run = Run.withLetters("its degree is that of all powers together; one of a degree above 9");
         int xyz = run.monomial(1, 1, 1, 1);
@@ -661,10 +676,40 @@ public final class TreeBoundsTest {
                 run.due(a == b, "alike", nodes[a], others[b]);
             }
         }
+        for (int a = 0; a < 9; a++) {
+            run.due(false, "alike", x, nodes[a]);
+            run.due(false, "alike", nodes[a], y);
+        }
         // The same polynomials, built in another way.
         run.due(false, "alike", nodes[3], run.make("node", 2, x, x));
         run.due(false, "alike", x, run.make("node", 4, run.make("node", 4, x, -1), -1));
         run.due(false, "alike", run.make("number", 0), run.make("node", 1, x, x));
+    }
+
+    private static void alikeInOnePlace() {
+        Run run = Run.withLetters("the same HEAD of trees built alike (both of them)");
+        for (int head = 0; head <= 2; head++) {
+            int node = run.make("node", head, 0, 1);
+            run.due(false, "alike", node, run.make("node", head, 0, 2));
+            run.due(false, "alike", node, run.make("node", head, 2, 1));
+            run.due(false, "alike", node, run.make("node", head, 0, 0));
+            run.due(true, "alike", node, run.make("node", head, 0, 1));
+        }
+    }
+
+    /** A node of the tree 0, 1 or 2 is neither the letter nor the number 0, 1 or 2. */
+    private static void alikeOfOneSort() {
+        Run run = Run.withLetters("the same LETTER, the same NUMBER, the same HEAD (of different sorts)");
+        for (int of = 0; of <= 2; of++) {
+            int number = run.make("number", of);
+            run.due(false, "alike", of, number);
+            for (int head = 3; head <= 5; head++) {
+                int node = run.make("node", head, of, -1);
+                run.due(false, "alike", of, node);
+                run.due(false, "alike", number, node);
+            }
+        }
+        run.due(false, "alike", 0, run.make("number", -1));
     }
 
     /** Two towers of the greatest depth, which differ at their feet alone or not at all. */
@@ -702,6 +747,7 @@ public final class TreeBoundsTest {
         fortyTermsInASquare();
         fortyTermsInAThirdPower();
         fortyTermsOfTheWhole();
+        allTermsThereCanBe();
         degreeOfAllPowersTogether();
         degreeOfOneLetter();
         numbersInASum();
@@ -717,6 +763,8 @@ public final class TreeBoundsTest {
         termRefused();
         alike();
         alikeNodes();
+        alikeInOnePlace();
+        alikeOfOneSort();
         alikeDeep();
         Run.end();
     }

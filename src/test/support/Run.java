@@ -262,14 +262,14 @@ final class Run {
 
     /** Numbers until there are so many trees. */
     void fillTrees(int many) {
-        while (trees < many) {
-            make("number", trees);
+        for (int i = trees; i < many; i++) {
+            make("number", i);
         }
     }
 
     /** Rows that hold until there are so many, about a tree. */
     void fillRows(int many, int tree) {
-        while (rows < many) {
+        for (int i = rows; i < many; i++) {
             make("load", 0, tree, tree, -1);
         }
     }
@@ -318,6 +318,19 @@ final class Run {
     int forty() {
         int ofTwo = make("node", 2, powersUpTo(0, 4), powersUpTo(1, 3));
         return make("node", 2, ofTwo, powersUpTo(2, 1));
+    }
+
+    /** (x + y + z + 1)^4, of all 35 terms of a degree up to 4. */
+    int allUpToFour() {
+        int square = make("node", 3, polynomial(new int[][] {
+            {1, 1, 0, 0}, {1, 0, 1, 0}, {1, 0, 0, 1}, {1, 0, 0, 0}}), -1);
+        return make("node", 3, square, -1);
+    }
+
+    /** Eleven terms which, times the tree above, give all 220 terms of a degree up to 9. */
+    int elevenUpToFive() {
+        return polynomial(new int[][] {{1, 0, 0, 0}, {1, 0, 0, 5}, {1, 0, 1, 4}, {1, 0, 2, 0}, {1, 0, 3, 2},
+            {1, 0, 5, 0}, {1, 1, 0, 3}, {1, 2, 1, 1}, {1, 3, 0, 0}, {1, 3, 2, 0}, {1, 5, 0, 0}});
     }
 
     /** A tree that is too great. */
