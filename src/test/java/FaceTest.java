@@ -4,7 +4,6 @@ import java.lang.reflect.Method;
 import java.lang.reflect.Modifier;
 import java.nio.file.Files;
 import java.nio.file.Path;
-import java.util.Arrays;
 import java.util.Set;
 import java.util.TreeSet;
 import java.util.regex.Matcher;
@@ -12,28 +11,27 @@ import java.util.regex.Pattern;
 
 /** The public face as the document has it, and rules of LANGUAGE.md that can be looked up. */
 public final class FaceTest {
-    private static final String INDEX = " throws ArrayIndexOutOfBoundsException";
-    private static final String[] FACE = {
-        "int leaf(int) throws IllegalArgumentException, IllegalStateException",
-        "int number(int) throws IllegalArgumentException, IllegalStateException",
-        "int node(int, int, int)" + INDEX + ", IllegalArgumentException, IllegalStateException",
-        "int load(int, int, int, int)" + INDEX + ", IllegalArgumentException, IllegalStateException",
-        "void cofactor(int, int)" + INDEX + ", IllegalArgumentException",
-        "void sample(int, int, int)" + INDEX + ", IllegalArgumentException",
-        "int check(int, int)" + INDEX,
-        "int rowAt(int, int)" + INDEX,
-        "int counted(int)" + INDEX,
-        "int terms(int)" + INDEX,
-        "int term(int, int, int, int)" + INDEX + ", IllegalStateException",
-        "int deep(int)" + INDEX,
-        "boolean alike(int, int)" + INDEX,
-        "int count(int)",
-        "void clear()",
-    };
-    /** Words that no rule of LANGUAGE.md leaves room for in this class. */
-    private static final String[] FORBIDDEN = {
-        "import", "package", "catch", "finally", "synchronized", "assert", "protected", "->", "::",
-        "System", "Random", "Thread", "Exact",
+    private static final Path DOCUMENT = Path.of("../shared/DOC.md");
+    private static final Path SOURCE = Path.of("src/main/java/SmallChecker.java");
+    private static final int METHODS = 15;
+
+    /** What the code may not have: the rule's number, and a pattern. */
+    private static final String[][] FORBIDDEN = {
+        {"the first line", "\\bpackage\\b"},
+        {"1", "\\bprotected\\b"},
+        {"2", "::"},
+        {"2", "(?m)^(?!\\s*(case|default)\\b).*->"},
+        {"4", "\\bimport\\b(?!\\s+java\\.util\\.(ArrayList|List|Arrays|Iterator|NoSuchElementException);)"},
+        {"4", "\\bSystem\\b(?!\\.arraycopy\\()"},
+        {"4", "\\w+Exact\\b"},
+        {"5", "\\bstatic\\s*\\{"},
+        {"6", "\\b(finally|synchronized|assert|getMessage)\\b"},
+        {"6", "\\btry\\s*\\("},
+        {"6", "\\bthrow\\b(?!\\s+new (ArrayIndexOutOfBounds|IllegalArgument|IllegalState|IndexOutOfBounds"
+            + "|Arithmetic|UnsupportedOperation|NoSuchElement|Runtime)Exception\\((\"[^\"]*\")?\\);)"},
+        {"7", "\\bcatch\\s*\\([^)]*\\b(ArrayIndexOutOfBounds|NullPointer|ClassCast|NegativeArraySize|ArrayStore)"},
+        {"7", "\\bcatch\\s*\\([^)]*\\b(Exception|Throwable|Error)\\b"},
+        {"13", "\\b(Random|Thread|Runtime|Clock|Instant|nanoTime|currentTimeMillis|getenv)\\b"},
     };
 
     private static int wrong = 0;
@@ -59,48 +57,82 @@ public final class FaceTest {
                 + ")" + (thrown.isEmpty() ? "" : " throws " + thrown);
     }
 
-    private static void face() {
-        Class<?> c = SmallChecker.class;
-        due(Modifier.isPublic(c.getModifiers()) && Modifier.isFinal(c.getModifiers()), "public final");
+    /** The methods that the document's face has, without the names of their parameters. */
+    private static Set<String> methodsOfTheDocument() throws Exception {
+        Set<String> all = new TreeSet<>();
+        Matcher line = Pattern.compile("(?m)^    public (\\w+ \\w+\\(.*);$").matcher(Files.readString(DOCUMENT));
+        while (line.find()) {
+            all.add(line.group(1).replaceAll("\\bint \\w+(?=[,)])", "int"));
+        }
+        return all;
+    }
+
+    private static void methods() throws Exception {
+        Set<String> want = methodsOfTheDocument();
+        due(want.size() == METHODS, "the document's face, as this test reads it: " + want);
         Set<String> got = new TreeSet<>();
         Set<String> publicNames = new TreeSet<>();
-        for (Method m : c.getDeclaredMethods()) {
+        for (Method m : SmallChecker.class.getDeclaredMethods()) {
             if (!Modifier.isPrivate(m.getModifiers())) {
                 due(Modifier.isPublic(m.getModifiers()), m + " is neither public nor private");
+                due(!Modifier.isStatic(m.getModifiers()), m + " is static");
                 got.add(told(m));
                 publicNames.add(m.getName());
             }
         }
-        due(got.equals(new TreeSet<>(Arrays.asList(FACE))), "the face: " + got);
-        for (Method m : c.getDeclaredMethods()) {
+        due(got.equals(want), "the face: " + got + ", the document has " + want);
+        for (Method m : SmallChecker.class.getDeclaredMethods()) {
             due(!Modifier.isPrivate(m.getModifiers()) || !publicNames.contains(m.getName()),
                     m + " bears the name of a public one");
         }
+    }
+
+    private static void classAndConstructor() {
+        Class<?> c = SmallChecker.class;
+        due(Modifier.isPublic(c.getModifiers()) && Modifier.isFinal(c.getModifiers()), "public final");
+        due(c.getSuperclass() == Object.class && c.getInterfaces().length == 0, "a class of no other sort");
         Constructor<?>[] made = c.getDeclaredConstructors();
-        due(made.length == 1 && made[0].getParameterCount() == 0
+        due(made.length == 1 && made[0].getParameterCount() == 0 && made[0].getExceptionTypes().length == 0
                 && Modifier.isPublic(made[0].getModifiers()), "one public constructor");
+        for (Class<?> inside : c.getDeclaredClasses()) {
+            int how = inside.getModifiers();
+            due(Modifier.isStatic(how), inside + " is static");
+            due(!Modifier.isPublic(how) && !Modifier.isProtected(how), inside + " is no part of the face");
+            fieldsAndParameters(inside);
+        }
+        due(c.getDeclaredClasses().length < 12, "at most twelve classes");
+        fieldsAndParameters(c);
         for (Field f : c.getDeclaredFields()) {
             due(Modifier.isPrivate(f.getModifiers()), f + " is private");
-            due(!Modifier.isStatic(f.getModifiers()) || Modifier.isFinal(f.getModifiers()), f + " is final");
         }
-        for (Class<?> inside : c.getDeclaredClasses()) {
-            due(Modifier.isStatic(inside.getModifiers()), inside + " is static");
+    }
+
+    private static void fieldsAndParameters(Class<?> c) {
+        int ofAnObject = 0;
+        for (Field f : c.getDeclaredFields()) {
+            boolean isStatic = Modifier.isStatic(f.getModifiers());
+            due(!isStatic || Modifier.isFinal(f.getModifiers()), f + " is final");
+            ofAnObject += isStatic ? 0 : 1;
+        }
+        due(ofAnObject <= 20, c + " has at most twenty fields");
+        for (Method m : c.getDeclaredMethods()) {
+            due(m.getParameterCount() <= 7, m + " has at most seven parameters");
         }
     }
 
     private static void source() throws Exception {
-        String text = Files.readString(Path.of("src/main/java/SmallChecker.java"));
-        String code = text.replaceAll("(?s)/\\*.*?\\*/", "").replaceAll("//[^\n]*", "");
-        for (String word : FORBIDDEN) {
-            due(!code.contains(word), "the source has " + word);
+        String code = Files.readString(SOURCE).replaceAll("(?s)/\\*.*?\\*/", "").replaceAll("//[^\n]*", "");
+        for (String[] forbidden : FORBIDDEN) {
+            Matcher found = Pattern.compile(forbidden[1]).matcher(code);
+            if (found.find()) {
+                due(false, "rule " + forbidden[0] + " leaves no room for " + found.group());
+            }
         }
-        Matcher thrown = Pattern.compile("throw\\s+(?!new (ArrayIndexOutOfBounds|IllegalArgument|IllegalState)"
-                + "Exception\\(\"[^\"]*\"\\);)").matcher(code);
-        due(!thrown.find(), "a throw of something else");
     }
 
     public static void main(String[] args) throws Exception {
-        face();
+        methods();
+        classAndConstructor();
         source();
         System.out.println(wrong == 0 ? "the face is as due" : wrong + " things are not as due");
         if (wrong != 0) {

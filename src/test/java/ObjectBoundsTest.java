@@ -64,6 +64,59 @@ public final class ObjectBoundsTest {
         other.due(119, "rowAt", 0, 4);
     }
 
+    /** Calls on two objects in turns; then each is asked, and not one that is made anew. */
+    private static void objectsInTurns() {
+        Run some = new Run("SmallChecker(): No trees, no rows (two objects in turns)");
+        Run others = new Run("SmallChecker(): No trees, no rows (two objects in turns)");
+        for (int i = 0; i < 3; i++) {
+            some.due(i, "leaf", i);
+            others.due(i, "number", 10 + i);
+        }
+        some.due(3, "node", 0, 0, 1);
+        others.due(3, "node", 2, 0, 1);
+        some.due(4, "node", 3, 3, -1);
+        others.due(4, "node", 4, 3, -1);
+        some.due(0, "load", 6, 4, 3, -1);
+        others.due(0, "load", 6, 3, 0, -1);
+        some.done("cofactor", 0, 3);
+        others.done("cofactor", 0, 1);
+        some.due(1, "load", 4, 0, 1, -1);
+        others.due(1, "load", 5, 4, -1, -1);
+        some.done("sample", 1, 0, 7);
+        others.done("sample", 1, 0, -7);
+        dueTurns(some, others);
+        others.done("clear");
+        some.due(5, "count", 0);
+        some.due(3, "terms", 4);
+        some.due(2, "check", 0, 2);
+        dueEmpty(others);
+    }
+
+    private static void dueTurns(Run some, Run others) {
+        some.due(3, "terms", 4);
+        others.due(1, "terms", 4);
+        some.due(2, "term", 4, 1, 1, 0);
+        others.due(-110, "term", 4, 0, 0, 0);
+        some.due(2, "deep", 4);
+        others.due(2, "deep", 4);
+        some.due(false, "alike", 0, 1);
+        others.due(false, "alike", 3, 4);
+        int[][] ofSome = {{6, 4, 3, -1, 3, 0, 0, 0}, {4, 0, 1, -1, -1, 7, 0, 0}};
+        int[][] ofOthers = {{6, 3, 0, -1, 1, 0, 0, 0}, {5, 4, -1, -1, -1, -7, 0, 0}};
+        for (int row = 0; row < 2; row++) {
+            for (int what = 0; what < 8; what++) {
+                some.due(ofSome[row][what], "rowAt", row, what);
+                others.due(ofOthers[row][what], "rowAt", row, what);
+            }
+        }
+        some.due(2, "check", 0, 2);
+        others.due(2, "check", 0, 2);
+        some.due(0, "check", 0, 1);
+        others.due(0, "check", 0, 1);
+        some.due(5, "counted", 0);
+        others.due(2, "counted", 0);
+    }
+
     private static void count() {
         Run run = new Run("what 0: trees, 1: rows, 2: KINDS; -1 for another what");
         for (int trees = 0; trees <= 120; trees++) {
@@ -195,6 +248,82 @@ public final class ObjectBoundsTest {
         }
     }
 
+    /** Of all sorts: trees 0 to 2 letters, 3 x + y, 5 too great, row 0 of kind 6, row 1 of kind 5. */
+    private static Run ofAllSorts(String sentence) {
+        Run run = Run.withLetters(sentence);
+        run.make("node", 0, 0, 1);
+        run.great();
+        run.make("load", 6, 3, 3, -1);
+        run.make("load", 5, 0, -1, -1);
+        run.done("sample", 1, 0, 3);
+        return run;
+    }
+
+    private static void theLastOf512(Object want, String name, int... args) {
+        Run run = ofAllSorts("An object is used for at most 512 calls (the last of them)");
+        while (run.used() < Run.MOST_CALLS - 1) {
+            run.due(run.used() % 2 == 0 ? 1 : 0, "check", run.used() % 2, 2);
+        }
+        run.due(want, name, args);
+    }
+
+    private static void eachCallAsTheLast() {
+        theLastOf512(6, "leaf", 2);
+        theLastOf512(6, "number", 1000000);
+        theLastOf512(6, "node", 5, 3, -1);
+        theLastOf512(2, "load", 2, 3, 0, 1);
+        theLastOf512("done", "cofactor", 0, 3);
+        theLastOf512("done", "sample", 0, 2, -10);
+        theLastOf512(1, "check", 0, 2);
+        theLastOf512(3, "rowAt", 1, 5);
+        theLastOf512(4, "counted", 0);
+        theLastOf512(-1, "terms", 5);
+        theLastOf512(1, "term", 3, 0, 1, 0);
+        theLastOf512(1, "deep", 3);
+        theLastOf512(true, "alike", 3, 3);
+        theLastOf512(6, "count", 0);
+        theLastOf512("done", "clear");
+        String[] thrown = {"throws.ArrayIndexOutOfBoundsException", "throws.IllegalArgumentException",
+            "throws.IllegalStateException"};
+        theLastOf512(thrown[0], "node", 0, 6, 0);
+        theLastOf512(thrown[1], "leaf", 3);
+        theLastOf512(thrown[2], "term", 5, 0, 0, 0);
+    }
+
+    private static void askingChangesNothing() {
+        Run run = ofAllSorts("Nothing is promised beyond the .. state changes described");
+        run.dueUnchanged(1, "check", 0, 2);
+        run.dueUnchanged(0, "check", 1, 2);
+        run.dueUnchanged(0, "check", 2, 2);
+        run.dueUnchanged(5, "rowAt", 1, 0);
+        run.dueUnchanged(-1, "rowAt", 0, 4);
+        run.dueUnchanged(4, "counted", 0);
+        run.dueUnchanged(2, "terms", 3);
+        run.dueUnchanged(-1, "terms", 5);
+        run.dueUnchanged(1, "term", 3, 1, 0, 0);
+        run.dueUnchanged(0, "term", 3, 0, 0, 0);
+        run.dueUnchanged(1, "deep", 3);
+        run.dueUnchanged(true, "alike", 2, 2);
+        run.dueUnchanged(false, "alike", 3, 2);
+        for (int what = -1; what <= 3; what++) {
+            run.dueUnchanged(what == 0 ? 6 : what == 1 ? 2 : what == 2 ? 7 : -1, "count", what);
+        }
+    }
+
+    /** A tree, a row, a sample or a cofactor more leaves all that was there as it was. */
+    private static void makingLeavesTheRest() {
+        Run run = ofAllSorts("Nothing is promised beyond the .. state changes described (of what was there)");
+        run.make("leaf", 1);
+        run.make("number", -1000000);
+        run.make("node", 2, 3, 3);
+        run.make("node", 5, 5, -1);
+        run.make("load", 6, 8, 3, -1);
+        run.done("cofactor", 2, 3);
+        run.done("sample", 2, 1, 10);
+        run.due(0, "check", 2, 3);
+        run.dueLeft(ofAllSorts(""));
+    }
+
     // Which exception goes first.
 
     private static void firstOfLeafAndNumber() {
@@ -308,6 +437,7 @@ public final class ObjectBoundsTest {
     public static void main(String[] args) {
         newObject();
         objectsOfTheirOwn();
+        objectsInTurns();
         count();
         countOfRefused();
         clearOfAnEmptyObject();
@@ -315,6 +445,9 @@ public final class ObjectBoundsTest {
         clearLeavesNothing();
         used512Times();
         checked512Times();
+        eachCallAsTheLast();
+        askingChangesNothing();
+        makingLeavesTheRest();
         firstOfLeafAndNumber();
         firstOfNode();
         firstOfNodeWithRoom();

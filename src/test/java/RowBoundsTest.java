@@ -424,6 +424,25 @@ public final class RowBoundsTest {
         dueHolds(true, run, 0, four, four, -1);
     }
 
+    /** On the way to the product there are 157 terms, of which 35 stay. */
+    private static void productsOfManySteps() {
+        Run run = Run.withLetters("KIND 2, KIND 6: the product (of many steps)");
+        int[] halves = run.halvesOfEight();
+        int product = run.productOfEight();
+        int other = run.make("node", 0, product, 0);
+        dueHolds(true, run, 2, product, halves[0], halves[1]);
+        dueHolds(true, run, 2, product, halves[1], halves[0]);
+        dueHolds(false, run, 2, other, halves[0], halves[1]);
+        dueHolds(false, run, 2, product, halves[0], halves[0]);
+        for (int half = 0; half < 2; half++) {
+            int row = run.make("load", 6, product, halves[half], -1);
+            run.done("cofactor", row, halves[half]);
+            dueRowHolds(false, run, row);
+            run.done("cofactor", row, halves[1 - half]);
+            dueRowHolds(true, run, row);
+        }
+    }
+
     /** Each kind with a tree that has as many terms as one can have. */
     private static void fortyTermsOfEachKind() {
         Run run = Run.withLetters("A row HOLDS if no tree .. is TOO GREAT (40 TERMS are not)");
@@ -807,6 +826,7 @@ public final class RowBoundsTest {
         kind2Degree();
         kind2Terms();
         kind2AllTerms();
+        productsOfManySteps();
         fortyTermsOfEachKind();
         kind3();
         kind3OfAPart();

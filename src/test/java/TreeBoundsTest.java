@@ -357,6 +357,30 @@ public final class TreeBoundsTest {
         run.due(0, "term", product, 0, 1, 0);
     }
 
+    /** Two trees of 26 terms, 157 sorts of products of those, and all but 35 go out. */
+    private static void fortyTermsBehindManyMore() {
+        Run run = Run.withLetters("its POLYNOMIAL has more than 40 TERMS (not the many steps to it)");
+        int[] halves = run.halvesOfEight();
+        run.due(26, "terms", halves[0]);
+        run.due(26, "terms", halves[1]);
+        int other = run.productOfEight();
+        run.due(35, "terms", other);
+        run.due(-40, "term", other, 2, 2, 2);
+        int[] products = {
+            run.make("node", 2, halves[0], halves[1]),
+            run.make("node", 2, halves[1], halves[0]),
+            run.make("node", 2, run.make("node", 2, 2, halves[0]), halves[1]),
+        };
+        run.due(0, "terms", run.make("node", 1, products[0], other));
+        run.due(0, "terms", run.make("node", 1, products[1], other));
+        run.due(35, "terms", products[2]);
+        run.due(1, "term", products[2], 0, 0, 9);
+        run.due(4, "term", products[2], 2, 2, 1);
+        run.due(-40, "term", products[2], 2, 2, 3);
+        run.due(6, "term", products[2], 4, 4, 1);
+        run.due(0, "term", products[2], 1, 1, 1);
+    }
+
     private static void allTermsThereCanBe() {
         Run run = Run.withLetters("more than 40 TERMS (all 220 of a degree up to 9)");
         int four = run.allUpToFour();
@@ -747,6 +771,7 @@ public final class TreeBoundsTest {
         fortyTermsInASquare();
         fortyTermsInAThirdPower();
         fortyTermsOfTheWhole();
+        fortyTermsBehindManyMore();
         allTermsThereCanBe();
         degreeOfAllPowersTogether();
         degreeOfOneLetter();

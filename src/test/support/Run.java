@@ -93,12 +93,17 @@ final class Run {
     }
 
     private void refused(String want, String name, int... args) {
+        refusals++;
+        dueUnchanged(want, name, args);
+    }
+
+    /** The answer of a call that changes nothing. */
+    void dueUnchanged(Object want, String name, int... args) {
         List<Call> without = List.copyOf(history);
         due(want, name, args);
-        refusals++;
         List<Call> with = new ArrayList<>(without);
         with.add(new Call(name, args));
-        dueSame(without, with, "behind the refused " + new Call(name, args));
+        dueSame(without, with, "behind " + new Call(name, args));
     }
 
     /** Whether the object is like one that these calls alone make. */
@@ -107,8 +112,19 @@ final class Run {
         dueSame(other.history, history, "behind all calls");
     }
 
+    /** Whether all that is in the other object is the same in this one, which may have more. */
+    void dueLeft(Run other) {
+        asked++;
+        dueSame(other.history, history, other.questionsInside(), List.of(), "behind all calls");
+    }
+
     int trees() {
         return trees;
+    }
+
+    /** How many calls the object has been used for. */
+    int used() {
+        return used;
     }
 
     private Object answerOf(Call call) {
@@ -179,10 +195,14 @@ final class Run {
         }
     }
 
-    /** New objects each time, as one object may not be asked for so much. */
     private void dueSame(List<Call> some, List<Call> others, String where) {
-        List<Call> last = lastCalls();
-        List<Call> all = questions();
+        List<Call> all = questionsInside();
+        all.addAll(questionsAtTheEdge());
+        dueSame(some, others, all, lastCalls(), where);
+    }
+
+    /** New objects each time, as one object may not be asked for so much. */
+    private void dueSame(List<Call> some, List<Call> others, List<Call> all, List<Call> last, String where) {
         int room = MOST_CALLS - Math.max(some.size(), others.size()) - last.size();
         if (room < 1) {
             tell("the test leaves no room to ask " + where);
@@ -214,16 +234,12 @@ final class Run {
         return answers;
     }
 
-    private List<Call> questions() {
+    /** What can be asked of the trees and rows that are there. */
+    private List<Call> questionsInside() {
         List<Call> all = new ArrayList<>();
-        for (int what = -1; what <= 3; what++) {
-            put(all, "count", what);
-        }
-        for (int t = -1; t <= trees; t++) {
+        for (int t = 0; t < trees; t++) {
             put(all, "terms", t);
             put(all, "deep", t);
-        }
-        for (int t = 0; t < trees; t++) {
             for (int u = 0; u < t; u++) {
                 put(all, "alike", t, u);
             }
@@ -234,13 +250,29 @@ final class Run {
             }
         }
         put(all, "check", 0, rows);
-        for (int r = 0; r <= rows; r++) {
+        for (int r = 0; r < rows; r++) {
             put(all, "counted", r);
             put(all, "check", r, r + 1);
             for (int what = 0; what < 8; what++) {
                 put(all, "rowAt", r, what);
             }
         }
+        return all;
+    }
+
+    /** How many there are, and what is asked of one too far. */
+    private List<Call> questionsAtTheEdge() {
+        List<Call> all = new ArrayList<>();
+        for (int what = -1; what <= 3; what++) {
+            put(all, "count", what);
+        }
+        for (int t : new int[] {-1, trees}) {
+            put(all, "terms", t);
+            put(all, "deep", t);
+        }
+        put(all, "counted", rows);
+        put(all, "check", rows, rows + 1);
+        put(all, "rowAt", rows, 0);
         return all;
     }
 
@@ -331,6 +363,42 @@ final class Run {
     int elevenUpToFive() {
         return polynomial(new int[][] {{1, 0, 0, 0}, {1, 0, 0, 5}, {1, 0, 1, 4}, {1, 0, 2, 0}, {1, 0, 3, 2},
             {1, 0, 5, 0}, {1, 1, 0, 3}, {1, 2, 1, 1}, {1, 3, 0, 0}, {1, 3, 2, 0}, {1, 5, 0, 0}});
+    }
+
+    /**
+     * Two trees of 26 terms: each the product of four of 1 + x + y + z with all signs of x, y, z. Their
+     * product is that of all eight, the tree below; 157 different powers meet in it, of which 35 stay.
+     */
+    int[] halvesOfEight() {
+        int one = make("number", 1);
+        int[] aboutX = {make("node", 0, one, 0), make("node", 1, one, 0)};
+        int[] aboutYZ = {make("node", 0, 1, 2), make("node", 1, 1, 2)};
+        int plus = make("node", 0, aboutX[0], aboutYZ[0]);
+        int minusZ = make("node", 0, aboutX[0], aboutYZ[1]);
+        int minusY = make("node", 1, aboutX[0], aboutYZ[1]);
+        int minusXZ = make("node", 0, aboutX[1], aboutYZ[1]);
+        int minusYZ = make("node", 1, aboutX[0], aboutYZ[0]);
+        int minusX = make("node", 0, aboutX[1], aboutYZ[0]);
+        int minusXY = make("node", 1, aboutX[1], aboutYZ[1]);
+        int minusAll = make("node", 1, aboutX[1], aboutYZ[0]);
+        return new int[] {
+            make("node", 2, make("node", 2, plus, minusZ), make("node", 2, minusY, minusXZ)),
+            make("node", 2, make("node", 2, minusYZ, minusX), make("node", 2, minusXY, minusAll)),
+        };
+    }
+
+    /** (1 + x^4 + y^4 + z^4 - 2 (x^2 + y^2 + z^2 + x^2 y^2 + x^2 z^2 + y^2 z^2))^2 - 64 x^2 y^2 z^2 */
+    int productOfEight() {
+        int one = make("number", 1);
+        int[] squares = {make("node", 3, 0, -1), make("node", 3, 1, -1), make("node", 3, 2, -1)};
+        int all = sum(one, squares[0], squares[1], squares[2]);
+        int fourths = sum(one, make("node", 3, squares[0], -1), make("node", 3, squares[1], -1),
+                make("node", 3, squares[2], -1));
+        // 2 (..) is the square of the sum of all four less the sum of their squares.
+        int root = make("node", 1, make("node", 0, fourths, fourths), make("node", 3, all, -1));
+        int last = make("node", 2, make("number", 64),
+                make("node", 2, make("node", 2, squares[0], squares[1]), squares[2]));
+        return make("node", 1, make("node", 3, root, -1), last);
     }
 
     /** A tree that is too great. */
