@@ -101,7 +101,7 @@ public final class ReadmeTest {
         }
         Set<String> named = found(text, "`(\\w+Test)`");
         due(named.equals(there), "the tests named are " + named + ", there are " + there);
-        for (String path : found(text, "((?:src|\\.\\./shared|\\.ci)/[\\w./]*\\w)")) {
+        for (String path : found(text, "((?:\\bsrc/|\\.ci/|\\.\\./shared/t)[\\w./]*\\w)")) {
             due(Files.exists(Path.of(path)), path + " is there");
         }
         due(Files.isExecutable(Path.of(".ci/run")), ".ci/run can be run");
