@@ -93,17 +93,31 @@ final class Run {
     }
 
     private void refused(String want, String name, int... args) {
+        List<Call> without = List.copyOf(history);
+        due(want, name, args);
         refusals++;
-        dueUnchanged(want, name, args);
+        dueSame(without, with(without, name, args), "behind the refused " + new Call(name, args));
     }
 
-    /** The answer of a call that changes nothing. */
+    /**
+     * The answer of a call that only asks. Each question behind it has objects of its own: one that
+     * changed something would change it with and without this call.
+     */
     void dueUnchanged(Object want, String name, int... args) {
         List<Call> without = List.copyOf(history);
         due(want, name, args);
-        List<Call> with = new ArrayList<>(without);
-        with.add(new Call(name, args));
-        dueSame(without, with, "behind " + new Call(name, args));
+        List<Call> all = questionsInside();
+        all.addAll(questionsAtTheEdge());
+        for (Call question : all) {
+            dueSame(without, with(without, name, args), List.of(question), List.of(), "behind " + new Call(name, args));
+        }
+        dueSame(without, with(without, name, args), lastCalls(), List.of(), "behind " + new Call(name, args));
+    }
+
+    private static List<Call> with(List<Call> calls, String name, int... args) {
+        List<Call> more = new ArrayList<>(calls);
+        more.add(new Call(name, args));
+        return more;
     }
 
     /** Whether the object is like one that these calls alone make. */
